@@ -32,7 +32,7 @@ public final class PromisedShare {
     private static final int OFF = 0;
     private static final int MARKING = 1;
     private static final int SWEEPING = 2;
-    private static final int TICKS_AHEAD = 9;
+    /** The program ran in all of the 9 ticks ahead: a bit for each. */
     private static final int ALL_AHEAD = 511;
     private static final int LAST_TICK = 999;
     private static final int MOST_TICKS = 60;
