@@ -1389,7 +1389,7 @@ public final class PromisedShare {
             }
             listed--;
             int t = list[listed];
-            int traced = kind[t] == null ? 0 : kind[t].traced();
+            int traced = has(t) ? kind[t].traced() : 0;
             for (int l = 0; l < traced; l++) {
                 markAndList(link[t * MOST_LINKS + l]);
             }
@@ -1592,7 +1592,7 @@ public final class PromisedShare {
             if (place < 0) {
                 return place;
             }
-            int wanted = NUMBERS_OF_WORD[word];
+            int wanted = numbersWanted();
             for (int i = 0; i < numbers.length; i++) {
                 numbers[i] = 0;
             }
@@ -1603,6 +1603,11 @@ public final class PromisedShare {
                 }
             }
             return place;
+        }
+
+        /** How many numbers stand behind the word read last. */
+        int numbersWanted() {
+            return word >= 0 && word < NUMBERS_OF_WORD.length ? NUMBERS_OF_WORD[word] : 0;
         }
 
         /** No word begins another one, so the one that stands there whole is the one meant. */

@@ -13,34 +13,43 @@ import java.util.regex.Matcher;
 import java.util.regex.Pattern;
 
 /**
- * Runs src/test/boundaries.txt: the document's sentences, each with runs of calls on new objects and
- * the answers that are due. A sentence that the document does not have is a fault of the test, and
- * so is a part of the document's terms and promises that no sentence there quotes.
+ * Runs src/test/boundaries.txt, the document's sentences, each with runs of calls on new objects and
+ * the answers that are due, and src/test/longruns.txt, in which many promises meet on one object.
+ * A sentence that the document does not have is a fault of the test, and so is a part of the
+ * document's terms and promises that no sentence there quotes.
  */
-public final class BoundaryTest {
-    private static final Path CASES = Path.of("src/test/boundaries.txt");
+public final class CaseTest {
+    private static final Path BOUNDARIES = Path.of("src/test/boundaries.txt");
+    private static final Path LONG_RUNS = Path.of("src/test/longruns.txt");
     private static final Path DOCUMENT = Path.of("../shared/DOC.md");
     /** An object is used for at most so many calls. */
     private static final int MOST_CALLS = 512;
     private static final Map<String, Method> FACE = face();
 
+    private static Path reading = BOUNDARIES;
     private static int wrong = 0;
     private static int checks = 0;
     private static int sentences = 0;
 
     public static void main(String[] args) throws IOException {
         Quotes quotes = new Quotes(Files.readString(DOCUMENT));
-        new Cases(quotes).readAll(Files.readAllLines(CASES));
+        readFile(BOUNDARIES, quotes);
         quotes.checkAllQuoted();
+        readFile(LONG_RUNS, quotes);
         System.out.println(sentences + " sentences, " + checks + " checks, " + wrong + " wrong");
         if (wrong != 0) {
             System.exit(1);
         }
     }
 
+    private static void readFile(Path file, Quotes quotes) throws IOException {
+        reading = file;
+        new Cases(quotes).readAll(Files.readAllLines(file));
+    }
+
     private static void fail(int line, String words) {
         wrong++;
-        System.out.println(CASES + ":" + line + ": " + words);
+        System.out.println(reading + ":" + line + ": " + words);
     }
 
     private static Map<String, Method> face() {
@@ -141,7 +150,7 @@ public final class BoundaryTest {
             "\\$(?<let>\\w+)"
             + "|<(?<text>[^>]*)>(?<tsign>[=!])(?<tdue>-?\\d+)"
             + "|\\[(?<shelf>\\d),(?<sort>\\d):(?<row>[^\\]]*)\\]"
-            + "|(?:(?<times>\\d+)\\*)?(?<name>\\w+)\\((?<args>[^)]*)\\)(?:(?<sign>[=!])(?<due>[\\w.-]+))?");
+            + "|(?:(?<times>\\d+)\\*)?(?<name>\\w+)\\((?<args>[^)]*)\\)(?:(?<sign>[=!])(?<due>[\\w.-]+(?:,[\\w.-]+)*))?");
 
         private final Quotes quotes;
         private final Map<String, String> lets = new HashMap<>();
@@ -258,8 +267,14 @@ public final class BoundaryTest {
                 }
                 all = longer;
             }
-            for (int[] args : all) {
-                add(m.group("name"), args, m.group("due"), "!".equals(m.group("sign")), number);
+            String[] dues = m.group("due") == null ? new String[] {null} : m.group("due").split(",");
+            if (dues.length != 1 && dues.length != all.size()) {
+                fail(number, dues.length + " answers for " + all.size() + " calls: " + m.group());
+                return;
+            }
+            for (int i = 0; i < all.size(); i++) {
+                String due = dues[dues.length == 1 ? 0 : i];
+                add(m.group("name"), all.get(i), due, "!".equals(m.group("sign")), number);
             }
         }
 
