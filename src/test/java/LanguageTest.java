@@ -1,3 +1,4 @@
+import java.io.DataInputStream;
 import java.io.IOException;
 import java.lang.management.ManagementFactory;
 import java.lang.reflect.Field;
@@ -33,12 +34,19 @@ public final class LanguageTest {
         "catch \\((?!IllegalStateException )", "\\bstatic \\{", "\\bpackage\\b", "\\bprotected\\b", "\\bMAX_VALUE\\b",
         "\\bMIN_VALUE\\b"};
 
+    /** What of the library the class uses; rule 4 allows more, and what is new is looked up there first. */
+    private static final Set<String> LIBRARY = Set.of(
+        "java/lang/Object.<init>", "java/lang/Integer.bitCount", "java/lang/Math.max", "java/lang/Math.min",
+        "java/lang/String.length", "java/lang/String.charAt", "java/lang/System.arraycopy", "java/util/Arrays.fill",
+        "java/lang/IllegalStateException.<init>", "java/lang/IllegalArgumentException.<init>");
+
     private static int wrong = 0;
 
     public static void main(String[] args) throws IOException {
         checkFace();
         for (Class<?> each : allClasses()) {
             checkClass(each);
+            checkLibrary(each);
         }
         checkText(Files.readString(SOURCE));
         checkRoom();
@@ -105,6 +113,42 @@ public final class LanguageTest {
             hold(Modifier.isStatic(each.getModifiers()), "classes inside are static: " + each);
         }
         hold(allClasses().size() <= 12, "at most some twelve classes");
+    }
+
+    /** Every method that the compiled class calls: its own ones, or one of the library that is allowed. */
+    private static void checkLibrary(Class<?> each) throws IOException {
+        try (DataInputStream in = new DataInputStream(each.getResourceAsStream(each.getName() + ".class"))) {
+            in.skipNBytes(8);
+            Object[] pool = new Object[in.readUnsignedShort()];
+            for (int i = 1; i < pool.length; i++) {
+                pool[i] = readConstant(in);
+                // A long or a double takes two places.
+                i += pool[i] instanceof Long ? 1 : 0;
+            }
+            for (Object constant : pool) {
+                if (constant instanceof int[] call && call.length == 2) {
+                    String owner = (String) pool[((int[]) pool[call[0]])[0]];
+                    String name = (String) pool[((short[]) pool[call[1]])[0]];
+                    hold(owner.startsWith("PromisedShare") || LIBRARY.contains(owner + "." + name),
+                        "not yet looked up in rule 4: " + owner + "." + name);
+                }
+            }
+        }
+    }
+
+    /** A text, {class name}, {class, name and type} of a method, short {name, type}; null where it is no matter. */
+    private static Object readConstant(DataInputStream in) throws IOException {
+        int tag = in.readUnsignedByte();
+        switch (tag) {
+            case 1: return in.readUTF();
+            case 5: case 6: return in.readLong();
+            case 7: return new int[] {in.readUnsignedShort()};
+            case 10: case 11: return new int[] {in.readUnsignedShort(), in.readUnsignedShort()};
+            case 12: return new short[] {in.readShort(), in.readShort()};
+            case 8: case 16: case 19: case 20: in.skipNBytes(2); return null;
+            case 15: in.skipNBytes(3); return null;
+            default: in.skipNBytes(4); return null;
+        }
     }
 
     private static void checkText(String text) {
